@@ -21,6 +21,7 @@ public final class GalleonWave {
     private static final int ADVERTISE = 4;
     private static final int RAID_EVIDENCE = 3;
 
+    private static final int NO_HOLD = 0;
     private static final int TENDER_WIND = 7;
     private static final int TENDER_PRICE = 50;
     private static final int TUG_PRICE = 500;
@@ -148,7 +149,7 @@ public final class GalleonWave {
             throws IndexOutOfBoundsException, IllegalArgumentException, UnsupportedOperationException {
         Ship of = shipAt(ship);
         int holds = holdOf(bottom);
-        if (holds == 0) {
+        if (holds == NO_HOLD) {
             throw new IllegalArgumentException("there is no such bottom");
         }
         if (of.anchor.isDown || isStranded(of)) {
@@ -534,16 +535,7 @@ public final class GalleonWave {
     }
 
     private static int holdOf(char bottom) {
-        switch (bottom) {
-            case 's':
-                return 8;
-            case 'm':
-                return 6;
-            case 'r':
-                return 4;
-            default:
-                return 0;
-        }
+        return bottom == 's' ? 8 : bottom == 'm' ? 6 : bottom == 'r' ? 4 : NO_HOLD;
     }
 
     // ---- places and time
@@ -1334,7 +1326,7 @@ public final class GalleonWave {
             return best[all];
         }
 
-        /** Of an hour by which nothing is kept yet, only the empty set of recordings can be. */
+        /** Without a kept hour only the empty set of recordings fits. */
         void clearFits(int all) {
             for (int set = 1; set <= all; set++) {
                 fits[set] = false;

@@ -10,6 +10,7 @@ public final class AirTest {
         signalWithSalt();
         getHeard();
         heardOnOneChannel();
+        heardTwiceAsStrong();
         heardOfSeveral();
         heardInTheLastHour();
         getListeners();
@@ -152,6 +153,11 @@ public final class AirTest {
         x.pass(12);
         Check.due("1 by day", x.getSignal(0, 0), 100);
         Check.due("1 by day as far as 40", x.getSignal(0, 1), 0);
+        GalleonWave south = Scene.sea();
+        south.addTown(0, -100, -100, 1);
+        south.addShip(-100, -130);
+        south.setPower(0, 50);
+        Check.due("30 to the south", south.getSignal(0, 0), 100000 / 910);
         Check.dueIndex("town 3", () -> x.getSignal(0, 3));
         Check.dueIndex("town -1", () -> x.getSignal(0, -1));
         Check.dueIndex("ship 1", () -> x.getSignal(1, 0));
@@ -230,6 +236,24 @@ public final class AirTest {
         x.setPower(1, 0);
         x.pass(1);
         Check.due("one off the air does not disturb", x.getHeard(0), 0);
+    }
+
+    private static void heardTwiceAsStrong() {
+        GalleonWave x = Scene.sea();
+        x.addTown(0, 0, 0, 1);
+        Scene.addStation(x, 0, 0, 5, 20);
+        Scene.addStation(x, 0, 0, 5, 40);
+        x.pass(1);
+        Check.due("8000 and 4000", x.getHeard(0), 1);
+        GalleonWave y = Scene.sea();
+        y.addTown(0, 0, 0, 1);
+        Scene.addStation(y, 0, 30, 5, 20);
+        Scene.addStation(y, 30, 0, 5, 39);
+        y.pass(1);
+        Check.due("85 and 43", y.getHeard(0), -1);
+        y.setPower(1, 40);
+        y.pass(1);
+        Check.due("87 and 43", y.getHeard(0), 1);
     }
 
     private static void heardOfSeveral() {
