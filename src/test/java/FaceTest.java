@@ -79,6 +79,10 @@ public final class FaceTest {
             Check.due("the face has " + line, signatures.remove(line), true);
         }
         Check.due("the face has no more than that, but " + signatures, signatures.size(), 0);
+        for (Method method : face.getDeclaredMethods()) {
+            boolean isOwn = Modifier.isPublic(method.getModifiers()) || !names.contains(method.getName());
+            Check.due(method + " has a name of its own", isOwn, true);
+        }
         Constructor<?>[] constructors = face.getDeclaredConstructors();
         Check.due("one constructor", constructors.length, 1);
         Check.due("without arguments", constructors[0].getParameterCount(), 0);
