@@ -30,7 +30,7 @@ public final class Check {
         }
     }
 
-    /** The very class of the exception is compared: a subclass, such as the machine's own, is wrong. */
+    /** The very class of the exception is compared, and it must be thrown by the class itself, never by the machine. */
     static void dueThrow(String what, Class<? extends RuntimeException> want, Call call) {
         asked++;
         RuntimeException got = null;
@@ -39,10 +39,15 @@ public final class Check {
         } catch (RuntimeException e) {
             got = e;
         }
-        if (got == null || got.getClass() != want) {
+        if (got == null || got.getClass() != want || !isOwn(got)) {
             wrong++;
             System.out.println(what + " threw " + got + ", due is " + want.getSimpleName());
         }
+    }
+
+    private static boolean isOwn(RuntimeException thrown) {
+        StackTraceElement[] calls = thrown.getStackTrace();
+        return calls.length > 0 && calls[0].getClassName().startsWith("GalleonWave");
     }
 
     static void dueIndex(String what, Call call) {

@@ -366,8 +366,10 @@ public final class TermsOfAirTest {
         GalleonWave x = Scene.sea();
         for (int i = 0; i < 6; i++) {
             x.addTown(0, 50 * i, 0, 1 << i);
+            Check.due("nobody yet", x.getHeard(i), -1);
         }
         Scene.addStation(x, 0, 0, 3, 20);
+        Check.due("nobody ahead of an hour", x.getHeard(0), -1);
         Scene.addStation(x, 250, 0, 3, 20);
         x.pass(1);
         int[] heard = {0, -1, -1, -1, -1, 1};
@@ -383,6 +385,10 @@ public final class TermsOfAirTest {
         Check.due("as far as 100", x.getHeard(2), -1);
         Check.due("of both", x.getListeners(0), 3);
         Check.due("of none", x.getListeners(1), 0);
+        GalleonWave late = Scene.station();
+        late.pass(1);
+        late.addTown(0, 0, 0, 5);
+        Check.due("a town that is new did not listen", late.getHeard(0), -1);
     }
 
     /** "Returns how many thousands listened to a ship in the last hour." */

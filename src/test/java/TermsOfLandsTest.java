@@ -18,6 +18,7 @@ public final class TermsOfLandsTest {
         calmAtFirst();
         windWays();
         tideTurns();
+        tideBefore();
         tideAfterPasses();
         Check.end("TermsOfLandsTest");
     }
@@ -330,6 +331,19 @@ public final class TermsOfLandsTest {
             Check.due("east behind hour " + hour, x.getPlace(0, true), east);
             Check.due("north behind hour " + hour, x.getPlace(0, false), north);
         }
+    }
+
+    /** "Returns the one to the east before.": as it was told, in whatever hour. */
+    private static void tideBefore() {
+        GalleonWave x = new GalleonWave();
+        Check.due("none at first", x.setTide(3, -1), 0);
+        Check.due("3 before", x.setTide(-3, 2), 3);
+        x.pass(7);
+        Check.due("-3 before, though it goes the other way", x.setTide(-2, 0), -3);
+        Check.dueArgument("too far to the east", () -> x.setTide(4, 0));
+        Check.dueArgument("too far to the south", () -> x.setTide(0, -4));
+        Check.due("-2 before", x.setTide(0, 1), -2);
+        Check.due("0 before", x.setTide(1, 2), 0);
     }
 
     private static void tideAfterPasses() {

@@ -336,6 +336,8 @@ public final class TermsOfPeopleTest {
         Check.due("only once", x.getChannel(0), 6);
         x.send(1, 0, false);
         Check.due("of the other land", x.getChannel(0), 7);
+        x.send(0, 0, false);
+        Check.due("one that went does not come again", x.getChannel(0), 7);
     }
 
     /** "and takes those back who were tired ahead of that": of that ship, and only if it is told. */
